@@ -410,11 +410,11 @@ public final class ThroatTracks {
         }
 
         int routeIn(int i, int track) {
-            return switchesOf(lineIn[i], track);
+            return routes[lineIn[i] * MOST_TRACKS + track];
         }
 
         int routeOut(int i, int track) {
-            return switchesOf(lineOut[i], track);
+            return routes[lineOut[i] * MOST_TRACKS + track];
         }
 
         boolean fits(int i, int track) {
@@ -727,7 +727,7 @@ public final class ThroatTracks {
         }
 
         static boolean meet(int switches, int from, int otherFrom) {
-            return switches != 0 && Math.abs(from - otherFrom) <= 1;
+            return switches != 0 && from - otherFrom <= 1 && otherFrom - from <= 1;
         }
 
         /** The lowest TRAIN whose place as it stands is against this one, or NONE. */

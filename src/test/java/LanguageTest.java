@@ -97,7 +97,7 @@ public final class LanguageTest {
         for (String word : none) check(!Pattern.compile("\\b" + word + "\\b").matcher(code).find(), "the word " + word);
         for (String mark : new String[] {"->", "::", "@"}) check(!code.contains(mark), "the mark " + mark);
         Matcher library = Pattern.compile("\\b(System|Math|Integer|Long|Arrays)\\.(\\w+)").matcher(code);
-        Set<String> allowed = Set.of("System.arraycopy", "Math.max", "Math.min", "Math.abs");
+        Set<String> allowed = Set.of("System.arraycopy", "Math.max", "Math.min");
         while (library.find()) check(allowed.contains(library.group()), "the library's " + library.group());
         for (char c : source.toCharArray()) check(c < 128, "a letter beyond ASCII");
     }

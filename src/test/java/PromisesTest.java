@@ -4,6 +4,9 @@ public final class PromisesTest {
     private static final String FIRST =
         "yard 2,3;path 0,0,1;path 0,1,1,2;path 0,2,1,2,3;path 1,0,4,5;path 1,1,4;path 1,2,3;"
         + "come 0,1,10,20,1;come 1,0,12,18,9;come 0,0,15,25,1;come 1,1,22,30,0;span 1;";
+    /** TRAIN 0 has but TRACK 0, the six others wish for it and fit TRACK 1 too. */
+    private static final String SEVEN = "yard 2,2;path 0,0;path 0,1;path 1,0;come 1,1,5,40,9;come 0,0,6,6,0;come 0,0,8,8,0;"
+        + "come 0,0,11,11,0;come 0,0,15,15,0;come 0,0,20,20,0;come 0,0,40,40,0;";
     private static int wrong = 0;
     private static int asked = 0;
     private static int promise = 0;
@@ -436,6 +439,9 @@ public final class PromisesTest {
         ThroatTracks u = laid("yard 1,1;path 0,0;come 0,0,5,20,0;come 0,0,5,6,9;come 0,0,9,10,9;");
         due("fewest without, ahead of wishes", u.way(0, 0), NONE);
         due("way(0, -2)", u.way(0, -2), 0);
+        ThroatTracks w = laid(SEVEN);
+        due("fewest without, ahead of six wishes", w.way(0, -1) * 10 + w.way(0, -2), 0);
+        due("the first on 0", w.way(0, 0), 0);
     }
 
     private static void nearestWays() {
@@ -458,6 +464,9 @@ public final class PromisesTest {
         y.give(0, 0);
         due("fewest without, ahead of changes", y.way(1, 0), NONE);
         due("all three otherwise", y.way(1, -3), 3);
+        ThroatTracks z = laid(SEVEN);
+        for (int i = 1; i < 7; i++) due("give(" + i + ", 0)", z.give(i, 0), i);
+        due("fewest without, ahead of seven changes", z.way(1, -1) * 10 + z.way(1, -3), 7);
     }
 
     private static void adopting() {
