@@ -834,7 +834,7 @@ public final class ThroatTracks {
         }
 
         /** TRACKS are tried in the document's order and only what costs less is kept: so the first stays. */
-        void seek(int i, int cost, int seats) {
+        private void seek(int i, int cost, int seats) {
             if (i >= yard.trains) {
                 keepIfLess(cost);
                 return;
