@@ -111,17 +111,33 @@ public final class LanguageTest {
         }
     }
 
-    /** The dearest calls, over and over: what they make must stay small beside the room that a run has. */
+    /** No call makes an object, as README.md says: so all calls of a run stay within the room that a run has. */
     private static void room() {
         com.sun.management.ThreadMXBean meter = (com.sun.management.ThreadMXBean) ManagementFactory.getThreadMXBean();
-        ThroatTracks x = new ThroatTracks();
         long id = Thread.currentThread().getId();
+        String text = "yard 2,3;path 0,0,1;path 0,1,1,2;path 1,0,4;path 1,1;path 1,2,3;come 0,1,10,20,1;come 1,0,12,18,9;come 1,1,22,30,0;pair 0,2;span 2;";
+        int[] letters = text.chars().toArray();
+        ThroatTracks x = new ThroatTracks();
+        // The first time the machine itself may make something, such as what it keeps of a class.
+        int sum = callEach(x, letters);
+        long start = meter.getThreadAllocatedBytes(id);
         long before = meter.getThreadAllocatedBytes(id);
-        int sum = 0;
-        for (int k = 0; k < 50; k++) {
-            sum += x.way(0, -1) + x.way(1, -1) + x.adopt(k & 1) + x.without(k % 12) + x.late(0, 1) + x.undo() + x.fault() + x.lay();
+        sum += callEach(x, letters);
+        long made = meter.getThreadAllocatedBytes(id) - before - (before - start);
+        check(made == 0, "all calls made " + made + " bytes (" + sum + ")");
+        check(x.count(7) == text.length() && x.count(2) == 3, "the text of this test is not laid");
+    }
+
+    private static int callEach(ThroatTracks x, int[] letters) {
+        int sum = x.wipe();
+        for (int k = 0; k < letters.length; k++) sum += x.write(letters[k]);
+        sum += x.fault() + x.lay();
+        for (int k = 0; k < 12; k++) {
+            int i = k % 3;
+            sum += x.route(i, k) + x.train(i, k) + x.give(i, k & 1) + x.why(i, k & 3) + x.clash(0, i, i, k & 3) + x.late(i, k - 5);
+            sum += x.wish(i, k & 3) + x.way(k & 1, k % 6 - 3) + x.adopt(k & 1) + x.without(k) + x.take(i) + x.undo();
+            sum += x.on(i, k) + x.taken(k + 9) + x.use(k & 1, i) + x.count(k);
         }
-        long made = meter.getThreadAllocatedBytes(id) - before;
-        check(made < 100_000, "400 calls make " + made + " bytes (" + sum + ")");
+        return sum;
     }
 }
